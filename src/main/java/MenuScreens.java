@@ -11,7 +11,7 @@ public final class MenuScreens {
     private static final int NOT_NOW = -3;
     private static final int NO_ROOM = -4;
 
-    private static final int MOST_ROWS = 40;
+    private static final int LONGEST_SIDE = 40;
     private static final int USUAL_ROWS = 4;
     private static final int USUAL_COLUMNS = 16;
     private static final int MOST_SIGNS = 4000;
@@ -55,7 +55,7 @@ public final class MenuScreens {
     private long allCents;
 
     public MenuScreens(int rows, int columns) {
-        boolean fits = rows >= 1 && rows <= MOST_ROWS && columns >= 1 && columns <= MOST_ROWS;
+        boolean fits = rows >= 1 && rows <= LONGEST_SIDE && columns >= 1 && columns <= LONGEST_SIDE;
         this.rows = fits ? rows : USUAL_ROWS;
         this.columns = fits ? columns : USUAL_COLUMNS;
         this.text = new StringBuilder();

@@ -242,6 +242,7 @@ public final class PromisesTest {
         reads(3, "screen a", "screen b", "key 9 c", "screen c", "key 5 b", "key 9 a");
         reads(4, "screen a", "screen b", "key 1 c", "screen c", "key 1 d", "screen d", "key 1 a");
         reads(-2, "screen a", "key 1 nowhere", "screen b");
+        reads(-2, "screen a", "key 1 a", "key 9 nowhere");
         reads(-4, "screen a", "key 1 nowhere", "x");
     }
 
@@ -553,6 +554,19 @@ public final class PromisesTest {
         due.is("the last is too early", x.accept(5), -3);
         x.warn(3, Long.MAX_VALUE);
         due.is("still", x.accept(5), -3);
+        MenuScreens full = new MenuScreens(1, 4);
+        for (int n = 1; n <= 200; n++) {
+            full.warn(50, n);
+        }
+        due.is("number 201", full.accept(201), -1);
+        due.is("the last of its rank that is late enough", full.accept(170), 199);
+        due.is("it was", full.accept(170), -1);
+        due.is("the next one is too early", full.accept(171), -3);
+        MenuScreens least = new MenuScreens(1, 4);
+        least.warn(1, 0);
+        least.warn(2, 30);
+        due.is("the least rank", least.accept(1), 1);
+        due.is("it was", least.accept(1), -1);
     }
 
     private static void trip() {
