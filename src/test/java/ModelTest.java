@@ -52,7 +52,10 @@ public final class ModelTest {
 
         void is(String call, long got, long want) {
             calls++;
-            due.is("run " + run + " (" + rows + ", " + columns + ") call " + calls + ": " + call, got, want);
+            // What later calls answer is free.
+            if (calls <= CALLS) {
+                due.is("run " + run + " (" + rows + ", " + columns + ") call " + calls + ": " + call, got, want);
+            }
         }
 
         void typeAndRead() {

@@ -34,17 +34,6 @@ public final class PromisesTest {
         due.end();
     }
 
-    private static MenuScreens reading(int rows, int columns, String... lines) {
-        MenuScreens x = new MenuScreens(rows, columns);
-        int screens = Due.read(x, lines);
-        due.is("read() is right for " + String.join("/", lines), screens >= 0 ? 1 : screens, 1);
-        return x;
-    }
-
-    private static void reads(int want, String... lines) {
-        due.is("read() of " + String.join("/", lines), Due.read(new MenuScreens(4, 16), lines), want);
-    }
-
     private static void hasSize(int rows, int columns, int rowsDue, int columnsDue) {
         MenuScreens x = new MenuScreens(rows, columns);
         String size = rows + " x " + columns;
@@ -111,14 +100,14 @@ public final class PromisesTest {
     }
 
     private static void readCounts() {
-        reads(0);
-        reads(0, "", "   ", "");
-        reads(0, "name a");
-        reads(1, "screen a");
-        reads(2, "  screen   a ", "", "screen b", " key  1   a ");
-        reads(-2, "x");
-        reads(-4, "", "  ", "x", "y");
-        reads(-3, "screen a", "SCREEN b");
+        due.reads(0);
+        due.reads(0, "", "   ", "");
+        due.reads(0, "name a");
+        due.reads(1, "screen a");
+        due.reads(2, "  screen   a ", "", "screen b", " key  1   a ");
+        due.reads(-2, "x");
+        due.reads(-4, "", "  ", "x", "y");
+        due.reads(-3, "screen a", "SCREEN b");
         MenuScreens x = new MenuScreens(1, 5);
         Due.type(x, "screen a\nput 0 0 X");
         due.is("last line without its end", x.read(), 1);
@@ -128,128 +117,128 @@ public final class PromisesTest {
     }
 
     private static void readNamesAndNumbers() {
-        reads(0, "name abcdefgh", "name z", "name name");
+        due.reads(0, "name abcdefgh", "name z", "name name");
         for (String name : new String[] {"abcdefghi", "A", "aB", "a1", "1", "-", "a-", "`", "{", "a{"}) {
-            reads(-2, "name " + name);
-            reads(-2, "screen " + name);
-            reads(-3, "screen a", "key 1 " + name);
+            due.reads(-2, "name " + name);
+            due.reads(-2, "screen " + name);
+            due.reads(-3, "screen a", "key 1 " + name);
         }
-        reads(0, "setting s -999999 999999 -0");
-        reads(0, "setting s 000001 000003 2");
+        due.reads(0, "setting s -999999 999999 -0");
+        due.reads(0, "setting s 000001 000003 2");
         for (String number : new String[] {"1234567", "0000001", "-1234567", "-", "--1", "+1", "1-", "a", "1a", "/", ":"}) {
-            reads(-2, "setting s " + number + " 999999 999999");
-            reads(-2, "setting s -999999 " + number + " -999999");
-            reads(-2, "setting s -999999 999999 " + number);
-            reads(-4, "name x", "screen a", "if x = " + number);
-            reads(-3, "screen a", "put " + number + " 0 X");
-            reads(-3, "screen a", "put 0 " + number + " X");
+            due.reads(-2, "setting s " + number + " 999999 999999");
+            due.reads(-2, "setting s -999999 " + number + " -999999");
+            due.reads(-2, "setting s -999999 999999 " + number);
+            due.reads(-4, "name x", "screen a", "if x = " + number);
+            due.reads(-3, "screen a", "put " + number + " 0 X");
+            due.reads(-3, "screen a", "put 0 " + number + " X");
         }
     }
 
     private static void readValueLines() {
-        reads(-2, "name");
-        reads(-2, "name a b");
-        reads(-3, "name a", "name a");
-        reads(-3, "name a", "setting a 0 1 0");
-        reads(-3, "setting a 0 1 0", "name a");
-        reads(-3, "setting a 0 1 0", "setting a 0 1 0");
-        reads(0, "setting a 1 1 1");
-        reads(0, "setting a 1 3 1");
-        reads(0, "setting a 1 3 3");
-        reads(-2, "setting a 1 3 0");
-        reads(-2, "setting a 1 3 4");
-        reads(-2, "setting a 3 1 2");
-        reads(-2, "setting a 1 3");
-        reads(-2, "setting a 1 3 2 2");
-        reads(-2, "setting A 1 3 2");
-        reads(1, "screen a", "name a", "show 0 0 1 a");
-        reads(-3, "screen a", "show 0 0 1 a", "name a");
+        due.reads(-2, "name");
+        due.reads(-2, "name a b");
+        due.reads(-3, "name a", "name a");
+        due.reads(-3, "name a", "setting a 0 1 0");
+        due.reads(-3, "setting a 0 1 0", "name a");
+        due.reads(-3, "setting a 0 1 0", "setting a 0 1 0");
+        due.reads(0, "setting a 1 1 1");
+        due.reads(0, "setting a 1 3 1");
+        due.reads(0, "setting a 1 3 3");
+        due.reads(-2, "setting a 1 3 0");
+        due.reads(-2, "setting a 1 3 4");
+        due.reads(-2, "setting a 3 1 2");
+        due.reads(-2, "setting a 1 3");
+        due.reads(-2, "setting a 1 3 2 2");
+        due.reads(-2, "setting A 1 3 2");
+        due.reads(1, "screen a", "name a", "show 0 0 1 a");
+        due.reads(-3, "screen a", "show 0 0 1 a", "name a");
     }
 
     private static void readScreenLines() {
-        reads(-2, "screen");
-        reads(-2, "screen a b");
-        reads(-3, "screen a", "screen a");
-        reads(1, "name a", "screen a", "show 0 0 1 a");
+        due.reads(-2, "screen");
+        due.reads(-2, "screen a b");
+        due.reads(-3, "screen a", "screen a");
+        due.reads(1, "name a", "screen a", "show 0 0 1 a");
         String[] parts = {"put 0 0 X", "say 0 0 X Y", "show 0 0 1 v", "if v = 1", "key 1 a", "bar 1"};
         for (String part : parts) {
-            reads(-3, "name v", part, "screen a");
-            reads(1, "name v", "screen a", part);
-            reads(-4, "name v", "screen a", part + " more");
-            reads(-4, "name v", "screen a", part.substring(0, part.lastIndexOf(' ')));
-            reads(-4, "name v", "screen a", part.substring(0, part.indexOf(' ')));
-            reads(-4, "name v", "screen a", "x" + part);
-            reads(-4, "name v", "screen a", part.toUpperCase());
+            due.reads(-3, "name v", part, "screen a");
+            due.reads(1, "name v", "screen a", part);
+            due.reads(-4, "name v", "screen a", part + " more");
+            due.reads(-4, "name v", "screen a", part.substring(0, part.lastIndexOf(' ')));
+            due.reads(-4, "name v", "screen a", part.substring(0, part.indexOf(' ')));
+            due.reads(-4, "name v", "screen a", "x" + part);
+            due.reads(-4, "name v", "screen a", part.toUpperCase());
         }
     }
 
     private static void readPieceLines() {
         String[][] pieces = {{"put", "X"}, {"say", "X Y"}, {"show", "1 v"}};
         for (String[] piece : pieces) {
-            reads(1, "name v", "screen a", piece[0] + " 0 0 " + piece[1]);
-            reads(1, "name v", "screen a", piece[0] + " 999999 999999 " + piece[1]);
-            reads(1, "name v", "screen a", piece[0] + " -0 -0 " + piece[1]);
-            reads(-4, "name v", "screen a", piece[0] + " -1 0 " + piece[1]);
-            reads(-4, "name v", "screen a", piece[0] + " 0 -1 " + piece[1]);
-            reads(-4, "name v", "screen a", piece[0] + " 0 x " + piece[1]);
+            due.reads(1, "name v", "screen a", piece[0] + " 0 0 " + piece[1]);
+            due.reads(1, "name v", "screen a", piece[0] + " 999999 999999 " + piece[1]);
+            due.reads(1, "name v", "screen a", piece[0] + " -0 -0 " + piece[1]);
+            due.reads(-4, "name v", "screen a", piece[0] + " -1 0 " + piece[1]);
+            due.reads(-4, "name v", "screen a", piece[0] + " 0 -1 " + piece[1]);
+            due.reads(-4, "name v", "screen a", piece[0] + " 0 x " + piece[1]);
         }
-        reads(1, "name v", "screen a", "show 0 0 9 v");
-        reads(-4, "name v", "screen a", "show 0 0 0 v");
-        reads(-4, "name v", "screen a", "show 0 0 10 v");
-        reads(-4, "name v", "screen a", "show 0 0 -1 v");
-        reads(-4, "name v", "screen a", "show 0 0 x v");
-        reads(-4, "name v", "screen a", "show 0 0 1 w");
-        reads(-4, "name v", "screen a", "show 0 0 1 a");
-        reads(-4, "name v", "screen a", "show 0 0 1 V");
-        reads(-4, "name v", "screen a", "say 0 0 X Y Z");
+        due.reads(1, "name v", "screen a", "show 0 0 9 v");
+        due.reads(-4, "name v", "screen a", "show 0 0 0 v");
+        due.reads(-4, "name v", "screen a", "show 0 0 10 v");
+        due.reads(-4, "name v", "screen a", "show 0 0 -1 v");
+        due.reads(-4, "name v", "screen a", "show 0 0 x v");
+        due.reads(-4, "name v", "screen a", "show 0 0 1 w");
+        due.reads(-4, "name v", "screen a", "show 0 0 1 a");
+        due.reads(-4, "name v", "screen a", "show 0 0 1 V");
+        due.reads(-4, "name v", "screen a", "say 0 0 X Y Z");
     }
 
     private static void readConditionLines() {
-        reads(1, "name v", "screen a", "if v = 1", "if v < -999999", "if v > 999999");
-        reads(-4, "name v", "screen a", "if w = 1");
-        reads(-4, "name v", "screen a", "if a = 1");
-        reads(-4, "name v", "screen a", "if v ! 1");
-        reads(-4, "name v", "screen a", "if v == 1");
-        reads(-4, "name v", "screen a", "if v <= 1");
-        reads(-4, "name v", "screen a", "if v=1");
-        reads(-4, "name v", "screen a", "if v = 1 2");
+        due.reads(1, "name v", "screen a", "if v = 1", "if v < -999999", "if v > 999999");
+        due.reads(-4, "name v", "screen a", "if w = 1");
+        due.reads(-4, "name v", "screen a", "if a = 1");
+        due.reads(-4, "name v", "screen a", "if v ! 1");
+        due.reads(-4, "name v", "screen a", "if v == 1");
+        due.reads(-4, "name v", "screen a", "if v <= 1");
+        due.reads(-4, "name v", "screen a", "if v=1");
+        due.reads(-4, "name v", "screen a", "if v = 1 2");
     }
 
     private static void readKeyAndBarLines() {
-        reads(1, "screen a", "key 1 a", "key 9 a", "key 02 a");
-        reads(-3, "screen a", "key 0 a");
-        reads(-3, "screen a", "key 10 a");
-        reads(-3, "screen a", "key -1 a");
-        reads(-3, "screen a", "key x a");
-        reads(-4, "screen a", "key 3 a", "key 3 a");
-        reads(-4, "screen a", "key 3 b", "key 03 a", "screen b", "key 1 a");
-        reads(2, "screen a", "key 3 a", "screen b", "key 3 a");
-        reads(1, "screen a", "bar 0", "bar 999", "bar 5");
-        reads(-3, "screen a", "bar 1000");
-        reads(-3, "screen a", "bar -1");
-        reads(-3, "screen a", "bar x");
+        due.reads(1, "screen a", "key 1 a", "key 9 a", "key 02 a");
+        due.reads(-3, "screen a", "key 0 a");
+        due.reads(-3, "screen a", "key 10 a");
+        due.reads(-3, "screen a", "key -1 a");
+        due.reads(-3, "screen a", "key x a");
+        due.reads(-4, "screen a", "key 3 a", "key 3 a");
+        due.reads(-4, "screen a", "key 3 b", "key 03 a", "screen b", "key 1 a");
+        due.reads(2, "screen a", "key 3 a", "screen b", "key 3 a");
+        due.reads(1, "screen a", "bar 0", "bar 999", "bar 5");
+        due.reads(-3, "screen a", "bar 1000");
+        due.reads(-3, "screen a", "bar -1");
+        due.reads(-3, "screen a", "bar x");
     }
 
     private static void readAtTheEnd() {
-        reads(-2, "screen a", "key 1 b");
-        reads(-7, "screen a", "screen b", "key 1 nowhere", "screen c", "key 1 a", "x");
-        reads(-5, "screen a", "key 1 b", "", "screen c", "key 1 a", "key 2 nowhere", "screen b", "key 1 a");
-        reads(-3, "name b", "screen a", "key 1 b");
-        reads(-3, "screen a", "screen b");
-        reads(-3, "screen a", "screen b", "key 1 b");
-        reads(-3, "screen a", "screen b", "key 1 c", "screen c", "key 1 b");
-        reads(-3, "screen a", "screen b", "key 1 c", "screen c", "key 1 nowhere");
-        reads(3, "screen a", "screen b", "key 9 c", "screen c", "key 5 b", "key 9 a");
-        reads(4, "screen a", "screen b", "key 1 c", "screen c", "key 1 d", "screen d", "key 1 a");
-        reads(-2, "screen a", "key 1 nowhere", "screen b");
-        reads(-2, "screen a", "key 1 a", "key 9 nowhere");
-        reads(-4, "screen a", "key 1 nowhere", "x");
+        due.reads(-2, "screen a", "key 1 b");
+        due.reads(-7, "screen a", "screen b", "key 1 nowhere", "screen c", "key 1 a", "x");
+        due.reads(-5, "screen a", "key 1 b", "", "screen c", "key 1 a", "key 2 nowhere", "screen b", "key 1 a");
+        due.reads(-3, "name b", "screen a", "key 1 b");
+        due.reads(-3, "screen a", "screen b");
+        due.reads(-3, "screen a", "screen b", "key 1 b");
+        due.reads(-3, "screen a", "screen b", "key 1 c", "screen c", "key 1 b");
+        due.reads(-3, "screen a", "screen b", "key 1 c", "screen c", "key 1 nowhere");
+        due.reads(3, "screen a", "screen b", "key 9 c", "screen c", "key 5 b", "key 9 a");
+        due.reads(4, "screen a", "screen b", "key 1 c", "screen c", "key 1 d", "screen d", "key 1 a");
+        due.reads(-2, "screen a", "key 1 nowhere", "screen b");
+        due.reads(-2, "screen a", "key 1 a", "key 9 nowhere");
+        due.reads(-4, "screen a", "key 1 nowhere", "x");
     }
 
     private static void readLimits() {
         StringBuilder values = new StringBuilder();
         for (int i = 0; i < 40; i++) {
-            values.append(i % 2 == 0 ? "name " + letters(i) + "\n" : "setting " + letters(i) + " 0 1 0\n");
+            values.append(i % 2 == 0 ? "name " + Due.name(i) + "\n" : "setting " + Due.name(i) + " 0 1 0\n");
         }
         MenuScreens x = new MenuScreens(4, 16);
         Due.type(x, values.toString());
@@ -264,24 +253,20 @@ public final class PromisesTest {
 
         StringBuilder screens = new StringBuilder();
         for (int i = 0; i < 30; i++) {
-            screens.append("screen ").append(letters(i)).append("\nkey 1 ").append(letters(i == 0 ? 29 : i - 1)).append("\n");
+            screens.append("screen ").append(Due.name(i)).append("\nkey 1 ").append(Due.name(i == 0 ? 29 : i - 1)).append("\n");
         }
-        Due.type(x, screens.toString());
-        due.is("30 screens in a long way", x.read(), 30);
-        due.is("to the last one", x.press(1), 30);
-        due.is("and one back", x.press(1), 29);
         MenuScreens y = new MenuScreens(4, 16);
-        Due.type(y, screens + "screen zz\nkey 1 " + letters(0));
+        Due.type(y, screens.toString());
+        due.is("30 screens in a long way", y.read(), 30);
+        due.is("to the last one", y.press(1), 30);
+        due.is("and one back", y.press(1), 29);
+        Due.type(y, screens + "screen zz\nkey 1 " + Due.name(0));
         due.is("31 screens", y.read(), -62);
         due.is("no screens then", y.press(1), -3);
     }
 
-    private static String letters(int i) {
-        return "" + (char) ('a' + i / 26) + (char) ('a' + i % 26);
-    }
-
     private static void readKeepsAndForgets() {
-        MenuScreens x = reading(2, 6, "name v", "setting s 0 9 4", "screen a", "say 0 0 ONE EIN",
+        MenuScreens x = due.reading(2, 6, "name v", "setting s 0 9 4", "screen a", "say 0 0 ONE EIN",
                 "show 1 4 1 s", "key 1 b", "screen b", "bar 10", "put 0 0 B", "key 1 a");
         x.press(1);
         x.setting(2, 7);
@@ -313,7 +298,7 @@ public final class PromisesTest {
     }
 
     private static void value() {
-        MenuScreens x = reading(1, 7, "name a", "setting s 0 5 3", "name b", "screen h", "show 0 0 7 b");
+        MenuScreens x = due.reading(1, 7, "name a", "setting s 0 5 3", "name b", "screen h", "show 0 0 7 b");
         due.is("number 0", x.value(0, 1, true), -1);
         due.is("number 4", x.value(4, 1, true), -1);
         due.is("number below 0", x.value(Integer.MIN_VALUE, 1, true), -1);
@@ -338,7 +323,7 @@ public final class PromisesTest {
     }
 
     private static void press() {
-        MenuScreens x = reading(1, 3, "screen a", "key 1 b", "key 9 c", "screen b", "bar 20", "key 1 c",
+        MenuScreens x = due.reading(1, 3, "screen a", "key 1 b", "key 9 c", "screen b", "bar 20", "key 1 c",
                 "key 2 a", "key 9 a", "screen c", "bar 20", "key 1 a");
         due.is("key 0", x.press(0), -2);
         due.is("key 10", x.press(10), -2);
@@ -363,7 +348,7 @@ public final class PromisesTest {
     }
 
     private static void shownRowsAndWords() {
-        MenuScreens x = reading(3, 6, "screen a", "put 0 0 ABCDEFGH", "put 1 4 XYZ", "put 1 6 Q", "put 3 0 W",
+        MenuScreens x = due.reading(3, 6, "screen a", "put 0 0 ABCDEFGH", "put 1 4 XYZ", "put 1 6 Q", "put 3 0 W",
                 "put 0 2 12", "say 2 0 ONE ZWEI", "say 2 4 XY -", "put 999999 999999 Q", "screen b", "put 0 0 B", "key 1 a");
         due.is("row 0", Due.row(x, 0), "AB12EF");
         due.is("row 1", Due.row(x, 1), "    XY");
@@ -378,14 +363,14 @@ public final class PromisesTest {
         due.is("column -1", x.shown(0, -1), -2);
         due.is("column 6", x.shown(0, 6), -2);
         due.is("far away", x.shown(Integer.MAX_VALUE, Integer.MIN_VALUE), -2);
-        MenuScreens say = reading(1, 6, "screen a", "say 0 0 - ABC", "say 0 3 A --");
+        MenuScreens say = due.reading(1, 6, "screen a", "say 0 0 - ABC", "say 0 3 A --");
         due.is("language 0", Due.row(say, 0), "-  A  ");
         say.language(1);
         due.is("language 1", Due.row(say, 0), "ABC-- ");
     }
 
     private static void showsValue(int width, long v, String want) {
-        MenuScreens x = reading(1, 9, "name v", "screen a", "put 0 0 ABCDEFGHI", "show 0 0 " + width + " v");
+        MenuScreens x = due.reading(1, 9, "name v", "screen a", "put 0 0 ABCDEFGHI", "show 0 0 " + width + " v");
         x.value(1, v, true);
         due.is(v + " in " + width, Due.row(x, 0), want);
     }
@@ -404,16 +389,16 @@ public final class PromisesTest {
         showsValue(3, -123, "###DEFGHI");
         showsValue(9, 999999, "   999999");
         showsValue(9, -100200, "  -100200");
-        MenuScreens x = reading(2, 5, "name v", "setting s -5 5 -3", "screen a", "put 0 0 AAAAA", "show 0 1 3 v",
+        MenuScreens x = due.reading(2, 5, "name v", "setting s -5 5 -3", "screen a", "put 0 0 AAAAA", "show 0 1 3 v",
                 "show 1 3 4 s");
         due.is("not valid", Due.row(x, 0), "A---A");
         due.is("beyond the columns", Due.row(x, 1), "     ");
-        MenuScreens cut = reading(1, 3, "setting s -99999 5 -98765", "screen a", "show 0 1 6 s");
+        MenuScreens cut = due.reading(1, 3, "setting s -99999 5 -98765", "screen a", "show 0 1 6 s");
         due.is("cut at the right", Due.row(cut, 0), " -9");
     }
 
     private static void shownConditions() {
-        MenuScreens x = reading(2, 6, "name v", "name w", "screen a", "put 0 0 .", "if v = 5", "put 0 0 E", "if v < 5",
+        MenuScreens x = due.reading(2, 6, "name v", "name w", "screen a", "put 0 0 .", "if v = 5", "put 0 0 E", "if v < 5",
                 "put 0 1 L", "if v > 5", "say 0 2 G H", "if v > 0", "key 1 b", "name u", "bar 999", "if w = 1", "show 0 3 1 v",
                 "put 0 4 P", "if w = 7", "screen b", "put 0 0 B", "key 1 a");
         due.is("not valid", Due.row(x, 0), ".   P ");
@@ -431,14 +416,14 @@ public final class PromisesTest {
         due.is("5, not valid", Due.row(x, 0), ".   P ");
         x.press(1);
         due.is("an if ends with its screen", Due.row(x, 0), "B     ");
-        MenuScreens s = reading(1, 2, "setting s 0 9 4", "screen a", "if s > 4", "put 0 0 X");
+        MenuScreens s = due.reading(1, 2, "setting s 0 9 4", "screen a", "if s > 4", "put 0 0 X");
         due.is("4", Due.row(s, 0), "  ");
         s.setting(1, 5);
         due.is("5", Due.row(s, 0), "X ");
     }
 
     private static void shownBarsAndWarnings() {
-        MenuScreens x = reading(2, 6, "screen a", "bar 5", "bar 100", "put 0 0 ABCDEF", "put 1 0 ABCDEF", "key 1 b",
+        MenuScreens x = due.reading(2, 6, "screen a", "bar 5", "bar 100", "put 0 0 ABCDEF", "put 1 0 ABCDEF", "key 1 b",
                 "screen b", "put 0 0 B", "key 1 a");
         x.speed(100);
         due.is("at the bar", Due.row(x, 0), "ABCDEF");
@@ -617,7 +602,7 @@ public final class PromisesTest {
     }
 
     private static void speed() {
-        MenuScreens x = reading(1, 3, "screen a", "bar 50", "put 0 0 A", "key 9 b", "screen b", "key 1 a", "bar 999",
+        MenuScreens x = due.reading(1, 3, "screen a", "bar 50", "put 0 0 A", "key 9 b", "screen b", "key 1 a", "bar 999",
                 "screen c", "key 1 a");
         due.is("0", x.speed(0), 0);
         due.is("50", x.speed(50), 0);
@@ -633,15 +618,15 @@ public final class PromisesTest {
         x.press(1);
         due.is("back, 60", x.speed(60), 1);
         due.is("none", new MenuScreens(1, 1).speed(999), 0);
-        MenuScreens slow = reading(1, 3, "screen a", "bar 0");
+        MenuScreens slow = due.reading(1, 3, "screen a", "bar 0");
         due.is("bar 0 at 0", slow.speed(0), 0);
         due.is("bar 0 at 1", slow.speed(1), 1);
-        due.is("the last bar counts", reading(1, 1, "screen a", "bar 9", "bar 3").speed(4), 1);
-        due.is("the last bar counts", reading(1, 1, "screen a", "bar 3", "bar 9").speed(4), 0);
+        due.is("the last bar counts", due.reading(1, 1, "screen a", "bar 9", "bar 3").speed(4), 1);
+        due.is("the last bar counts", due.reading(1, 1, "screen a", "bar 3", "bar 9").speed(4), 0);
     }
 
     private static void language() {
-        MenuScreens x = reading(1, 2, "screen a", "say 0 0 A B");
+        MenuScreens x = due.reading(1, 2, "screen a", "say 0 0 A B");
         due.is("2", x.language(2), -2);
         due.is("-1", x.language(-1), -2);
         due.is("1", x.language(1), 0);
@@ -687,7 +672,7 @@ public final class PromisesTest {
     }
 
     private static void setting() {
-        MenuScreens x = reading(1, 3, "name a", "setting s -2 3 1", "screen h", "show 0 0 2 s");
+        MenuScreens x = due.reading(1, 3, "name a", "setting s -2 3 1", "screen h", "show 0 0 2 s");
         due.is("first", Due.row(x, 0), " 1 ");
         due.is("low", x.setting(2, -2), 1);
         due.is("low shown", Due.row(x, 0), "-2 ");

@@ -2,12 +2,18 @@
 final class Due {
     private int asked;
     private int wrong;
+    private String sentence = "";
+
+    /** Tells the sentence of the document that the next answers are asked for. */
+    void about(String sentence) {
+        this.sentence = "\"" + sentence + "\" ";
+    }
 
     void is(String call, long got, long want) {
         asked++;
         if (got != want) {
             wrong++;
-            System.out.println(call + " answered " + got + ", due is " + want);
+            System.out.println(sentence + call + " answered " + got + ", due is " + want);
         }
     }
 
@@ -15,8 +21,21 @@ final class Due {
         asked++;
         if (!got.equals(want)) {
             wrong++;
-            System.out.println(call + " answered [" + got + "], due is [" + want + "]");
+            System.out.println(sentence + call + " answered [" + got + "], due is [" + want + "]");
         }
+    }
+
+    /** What read() answers to these lines on a new object. */
+    void reads(int want, String... lines) {
+        is("read() of " + String.join("/", lines), read(new MenuScreens(4, 16), lines), want);
+    }
+
+    /** A new object that has read these lines, which must be right ones. */
+    MenuScreens reading(int rows, int columns, String... lines) {
+        MenuScreens x = new MenuScreens(rows, columns);
+        int screens = read(x, lines);
+        is("read() is right for " + String.join("/", lines), screens >= 0 ? 1 : screens, 1);
+        return x;
     }
 
     /** Says how it went, and ends the program with 1 if something was wrong. */
@@ -55,5 +74,10 @@ final class Due {
             sign = x.shown(row, column);
         }
         return signs.toString();
+    }
+
+    /** The i-th of many names, each of two letters. */
+    static String name(int i) {
+        return "" + (char) ('a' + i / 26) + (char) ('a' + i % 26);
     }
 }
