@@ -20,6 +20,7 @@ public final class CarEdgesTest {
         acceptedOnTime();
         acceptedAtTheEndsOfTime();
         acceptedWarningsThatAreNone();
+        acceptedTwice();
         allAccepted();
         trips();
         tripsOutside();
@@ -254,6 +255,30 @@ public final class CarEdgesTest {
         x.warn(0, 60);
         due.is("the second", x.accept(2), 1);
         due.is("it was, too", x.accept(2), -1);
+    }
+
+    private static void acceptedTwice() {
+        due.about("-1 there is none, or it was");
+        int[][] ranksOfThree = {{1, 2, 3}, {3, 2, 1}, {2, 2, 2}, {1, 3, 2}, {2, 1, 3}};
+        for (int[] ranks : ranksOfThree) {
+            for (int first = 1; first <= 3; first++) {
+                MenuScreens x = new MenuScreens(1, 3);
+                for (int rank : ranks) {
+                    x.warn(rank, 0);
+                }
+                x.warn(0, 30);
+                due.is("accept " + first, x.accept(first), 3);
+                due.is("accept " + first + " again", x.accept(first), -1);
+                int second = first % 3 + 1;
+                due.is("accept " + second, x.accept(second), 2);
+                due.is("accept " + second + " again", x.accept(second), -1);
+                due.is("accept " + first + " once more", x.accept(first), -1);
+            }
+        }
+        MenuScreens full = withWarnings(MOST_WARNINGS);
+        due.is("none of 200", full.accept(201), -1);
+        due.is("the last in order", full.accept(100), 199);
+        due.is("it was", full.accept(100), -1);
     }
 
     private static void allAccepted() {

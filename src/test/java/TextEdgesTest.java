@@ -33,6 +33,7 @@ public final class TextEdgesTest {
         barLines();
         linesThatAreNone();
         linesWithOtherWords();
+        shortLinesAfterLongOnes();
         numbersOutOfBounds();
         namesThatAreNotThere();
         linesWithoutAScreen();
@@ -475,6 +476,23 @@ public final class TextEdgesTest {
             due.reads(-4, before[0], before[1], line + " 0 0 0 0 0 0");
             for (int end = line.lastIndexOf(' '); end > 0; end = line.lastIndexOf(' ', end - 1)) {
                 due.reads(-4, before[0], before[1], line.substring(0, end));
+            }
+        }
+    }
+
+    /** What a line lacks is not taken from a longer line, nor from a longer text, before it. */
+    private static void shortLinesAfterLongOnes() {
+        due.about("has other words");
+        String[] whole = {"name w", "setting w 0 1 0", "screen b", "put 0 0 X", "say 0 0 X Y", "show 0 0 1 v", "if v = 0", "key 1 a", "bar 1"};
+        for (String line : whole) {
+            for (int end = line.lastIndexOf(' '); end > 0; end = line.lastIndexOf(' ', end - 1)) {
+                String part = line.substring(0, end);
+                due.reads(-4, "name v", "screen a", part);
+                due.reads(-5, "name v", "screen a", "setting t 0 1 0", part);
+                due.reads(-5, "name v", "screen a", "say 0 0 XXXXXXXX YYYYYYYY", part);
+                MenuScreens x = due.reading(1, 1, "name v", "screen a", "", "", "", "setting tttttttt -999999 999999 0");
+                due.is("read() of " + part + " behind a longer text", Due.read(x, "name v", "screen a", part), -4);
+                due.is("read() of " + part + " alone", Due.read(x, part), -2);
             }
         }
     }
