@@ -43,8 +43,8 @@ public final class MenuScreens {
     private final int rows;
     private final int columns;
     private final StringBuilder text;
-    private final Plan plan;
     private final Reader reader;
+    private final Plan plan;
     private final Warnings warnings;
     private int atHand;
     private int speed;
@@ -59,8 +59,8 @@ public final class MenuScreens {
         this.rows = fits ? rows : USUAL_ROWS;
         this.columns = fits ? columns : USUAL_COLUMNS;
         this.text = new StringBuilder();
-        this.plan = new Plan();
-        this.reader = new Reader(this.plan);
+        this.reader = new Reader();
+        this.plan = this.reader.plan;
         this.warnings = new Warnings();
     }
 
@@ -605,16 +605,12 @@ public final class MenuScreens {
         }
     }
 
-    /** Takes a text line by line into a plan. */
+    /** Takes a text line by line into its plan. */
     private static final class Reader {
-        private final Plan plan;
+        final Plan plan = new Plan();
         private final Line line = new Line();
         private Screen screen;
         private Condition pending;
-
-        Reader(Plan plan) {
-            this.plan = plan;
-        }
 
         /** The number of the first line that is wrong by itself, 0 if there is none. */
         int firstWrongLine(String text) {
